@@ -14,4 +14,8 @@ final class Bits {
     static long d(double v) {
         return Double.doubleToRawLongBits(v);
     }
+
+    static long of(int sort, double v) {
+        return sort == SINGLES ? f(v) : sort == DOUBLES ? d(v) : (long) v;
+    }
 }

@@ -1,19 +1,44 @@
+import java.io.IOException;
+import java.io.UncheckedIOException;
+import java.nio.file.Files;
+import java.nio.file.Path;
+
 /** What the tests of the project compare with: each prints what is wrong and counts it. */
 final class Check {
     interface Call {
         Object answer();
     }
 
+    private static final Path DOCUMENT = Path.of("../shared/DOC.md");
+
     private static int checks = 0;
     private static int wrong = 0;
+    private static String document = null;
+    private static String sentence = "";
 
     private Check() {}
+
+    /**
+     * Words of the document, which are printed ahead of all that is wrong from now on. That they
+     * stand there is checked, so that a test of words that are no more there does not go unseen.
+     */
+    static void promised(String words) {
+        if (document == null) {
+            try {
+                document = Files.readString(DOCUMENT);
+            } catch (IOException e) {
+                throw new UncheckedIOException(e);
+            }
+        }
+        sentence = "\"" + words + "\" ";
+        yes("stands in the document", document.contains(words));
+    }
 
     static void same(String what, Object due, Object got) {
         checks++;
         if (!due.equals(got)) {
             wrong++;
-            System.out.println(what + ": answered " + got + ", due is " + due);
+            System.out.println(sentence + what + ": answered " + got + ", due is " + due);
         }
     }
 

@@ -37,21 +37,6 @@ public final class PromisesTest {
         Check.end();
     }
 
-    private static WeatherMast mast(int... sorts) {
-        WeatherMast m = new WeatherMast();
-        for (int sort : sorts) {
-            m.mount(sort);
-        }
-        return m;
-    }
-
-    /** What a sort's new instrument makes of a number by one step. */
-    private static long stepped(int sort, int step, long k, long v) {
-        WeatherMast m = mast(sort);
-        m.step(0, step, k);
-        return m.read(0, v);
-    }
-
     // Promise 1
     private static void newObject() {
         WeatherMast m = new WeatherMast();
@@ -63,7 +48,7 @@ public final class PromisesTest {
             int s = sort;
             Check.refuses("new: widest " + s, NONE, () -> m.widest(s));
         }
-        WeatherMast other = mast(0, 1);
+        WeatherMast other = Masts.of(0, 1);
         Check.is("objects share nothing", 0, m.count(0));
         Check.is("objects share nothing", 2, other.count(0));
     }
@@ -88,7 +73,7 @@ public final class PromisesTest {
 
     // Promise 3
     private static void stepArguments() {
-        WeatherMast m = mast(0, 1, 2, 3);
+        WeatherMast m = Masts.of(0, 1, 2, 3);
         for (int i : new int[] {-1, 4, 8, Integer.MIN_VALUE, Integer.MAX_VALUE}) {
             Check.refuses("step: no instrument " + i, INDEX, () -> m.step(i, 99, NAN_D));
         }
@@ -120,26 +105,26 @@ public final class PromisesTest {
     }
 
     private static void stepsOfAllSorts() {
-        Check.is("AMOUNT of a count", 5, stepped(0, 0, 0, -5));
-        Check.is("AMOUNT of the least count", INT_MIN, stepped(0, 0, 0, INT_MIN));
-        Check.is("AMOUNT of a tally", 1L << 40, stepped(1, 0, 0, -(1L << 40)));
-        Check.is("AMOUNT of the least tally", Long.MIN_VALUE, stepped(1, 0, 0, Long.MIN_VALUE));
-        Check.is("AMOUNT of a single", Bits.f(2.5), stepped(2, 0, 0, Bits.f(-2.5)));
-        Check.is("AMOUNT of -0", Bits.d(0), stepped(3, 0, 0, Bits.d(-0.0)));
-        Check.is("AMOUNT of -infinity", Bits.f(INF), stepped(2, 0, 0, Bits.f(-INF)));
+        Check.is("AMOUNT of a count", 5, Masts.stepped(0, 0, 0, -5));
+        Check.is("AMOUNT of the least count", INT_MIN, Masts.stepped(0, 0, 0, INT_MIN));
+        Check.is("AMOUNT of a tally", 1L << 40, Masts.stepped(1, 0, 0, -(1L << 40)));
+        Check.is("AMOUNT of the least tally", Long.MIN_VALUE, Masts.stepped(1, 0, 0, Long.MIN_VALUE));
+        Check.is("AMOUNT of a single", Bits.f(2.5), Masts.stepped(2, 0, 0, Bits.f(-2.5)));
+        Check.is("AMOUNT of -0", Bits.d(0), Masts.stepped(3, 0, 0, Bits.d(-0.0)));
+        Check.is("AMOUNT of -infinity", Bits.f(INF), Masts.stepped(2, 0, 0, Bits.f(-INF)));
 
-        Check.is("AT LEAST by the sign", 3, stepped(0, 1, 3, -7));
-        Check.is("AT LEAST leaves what is greater", 9, stepped(0, 1, 3, 9));
-        Check.is("K of a count is its lowest bits", -1, stepped(0, 1, 0xffffffffL, -7));
-        Check.is("AT MOST by the sign", -7, stepped(1, 2, 3, -7));
-        Check.is("AT MOST cuts", 3, stepped(1, 2, 3, Long.MAX_VALUE));
-        Check.is("AT LEAST: -0 is below 0", Bits.d(0), stepped(3, 1, Bits.d(0), Bits.d(-0.0)));
-        Check.is("AT LEAST: 0 is above -0", Bits.d(0), stepped(3, 1, Bits.d(-0.0), Bits.d(0)));
-        Check.is("AT MOST: -0 is below 0", Bits.f(-0.0), stepped(2, 2, Bits.f(-0.0), Bits.f(0)));
-        Check.is("AT MOST: 0 is above -0", Bits.f(-0.0), stepped(2, 2, Bits.f(0), Bits.f(-0.0)));
-        Check.is("AT LEAST of two below 0", Bits.f(-1), stepped(2, 1, Bits.f(-1), Bits.f(-2)));
-        Check.is("AT MOST of two below 0", Bits.f(-2), stepped(2, 2, Bits.f(-1), Bits.f(-2)));
-        Check.is("AT LEAST -infinity", Bits.d(-INF), stepped(3, 1, Bits.d(-INF), Bits.d(-INF)));
+        Check.is("AT LEAST by the sign", 3, Masts.stepped(0, 1, 3, -7));
+        Check.is("AT LEAST leaves what is greater", 9, Masts.stepped(0, 1, 3, 9));
+        Check.is("K of a count is its lowest bits", -1, Masts.stepped(0, 1, 0xffffffffL, -7));
+        Check.is("AT MOST by the sign", -7, Masts.stepped(1, 2, 3, -7));
+        Check.is("AT MOST cuts", 3, Masts.stepped(1, 2, 3, Long.MAX_VALUE));
+        Check.is("AT LEAST: -0 is below 0", Bits.d(0), Masts.stepped(3, 1, Bits.d(0), Bits.d(-0.0)));
+        Check.is("AT LEAST: 0 is above -0", Bits.d(0), Masts.stepped(3, 1, Bits.d(-0.0), Bits.d(0)));
+        Check.is("AT MOST: -0 is below 0", Bits.f(-0.0), Masts.stepped(2, 2, Bits.f(-0.0), Bits.f(0)));
+        Check.is("AT MOST: 0 is above -0", Bits.f(-0.0), Masts.stepped(2, 2, Bits.f(0), Bits.f(-0.0)));
+        Check.is("AT LEAST of two below 0", Bits.f(-1), Masts.stepped(2, 1, Bits.f(-1), Bits.f(-2)));
+        Check.is("AT MOST of two below 0", Bits.f(-2), Masts.stepped(2, 2, Bits.f(-1), Bits.f(-2)));
+        Check.is("AT LEAST -infinity", Bits.d(-INF), Masts.stepped(3, 1, Bits.d(-INF), Bits.d(-INF)));
     }
 
     private static void stepsOfFloats() {
@@ -153,21 +138,21 @@ public final class PromisesTest {
             for (int step = 3; step <= 6; step++) {
                 String what = "step " + step + " of " + from[i];
                 double v = due[step - 3][i];
-                Check.is("single " + what, Bits.f(v), stepped(2, step, 0, Bits.f(from[i])));
-                Check.is("double " + what, Bits.d(v), stepped(3, step, 0, Bits.d(from[i])));
+                Check.is("single " + what, Bits.f(v), Masts.stepped(2, step, 0, Bits.f(from[i])));
+                Check.is("double " + what, Bits.d(v), Masts.stepped(3, step, 0, Bits.d(from[i])));
             }
         }
-        Check.is("LIKE 1", Bits.d(2), stepped(3, 7, Bits.d(1), Bits.d(-2)));
-        Check.is("LIKE -1", Bits.d(-2), stepped(3, 7, Bits.d(-1), Bits.d(2)));
-        Check.is("LIKE 0", Bits.f(2), stepped(2, 7, Bits.f(0), Bits.f(-2)));
-        Check.is("LIKE -0", Bits.f(-2), stepped(2, 7, Bits.f(-0.0), Bits.f(2)));
-        Check.is("0 LIKE -1", Bits.f(-0.0), stepped(2, 7, Bits.f(-1), Bits.f(0)));
-        Check.is("infinity LIKE -1", Bits.d(-INF), stepped(3, 7, Bits.d(-1), Bits.d(INF)));
+        Check.is("LIKE 1", Bits.d(2), Masts.stepped(3, 7, Bits.d(1), Bits.d(-2)));
+        Check.is("LIKE -1", Bits.d(-2), Masts.stepped(3, 7, Bits.d(-1), Bits.d(2)));
+        Check.is("LIKE 0", Bits.f(2), Masts.stepped(2, 7, Bits.f(0), Bits.f(-2)));
+        Check.is("LIKE -0", Bits.f(-2), Masts.stepped(2, 7, Bits.f(-0.0), Bits.f(2)));
+        Check.is("0 LIKE -1", Bits.f(-0.0), Masts.stepped(2, 7, Bits.f(-1), Bits.f(0)));
+        Check.is("infinity LIKE -1", Bits.d(-INF), Masts.stepped(3, 7, Bits.d(-1), Bits.d(INF)));
     }
 
     // Promise 4
     private static void follow() {
-        WeatherMast m = mast(3, 3, 2, 0, 0);
+        WeatherMast m = Masts.of(3, 3, 2, 0, 0);
         Check.refuses("follow: no instrument", INDEX, () -> m.follow(5, 9, 0));
         Check.refuses("follow: no other", INDEX, () -> m.follow(0, 9, 5));
         Check.refuses("follow: other below 0", INDEX, () -> m.follow(0, 1, -1));
@@ -206,7 +191,7 @@ public final class PromisesTest {
 
     // Promise 5
     private static void read() {
-        WeatherMast m = mast(0, 1, 2, 3);
+        WeatherMast m = Masts.of(0, 1, 2, 3);
         Check.refuses("read: no instrument", INDEX, () -> m.read(4, NAN_D));
         Check.refuses("read: below 0", INDEX, () -> m.read(-1, 0));
         Check.is("a count is the lowest bits", -2, m.read(0, 0x12345678fffffffeL));
@@ -222,7 +207,7 @@ public final class PromisesTest {
         for (long bits : new long[] {NAN_D, Bits.d(INF) + 1, Bits.d(-INF) + 1, Long.MAX_VALUE, -1L}) {
             Check.refuses("no double", ARGUMENT, () -> m.read(3, bits));
         }
-        WeatherMast c = mast(3);
+        WeatherMast c = Masts.of(3);
         c.step(0, 2, Bits.d(2.5));
         c.step(0, 5, 0);
         c.step(0, 7, Bits.d(-1));
@@ -233,7 +218,7 @@ public final class PromisesTest {
 
     // Promise 6
     private static void reading() {
-        WeatherMast m = mast(0, 2);
+        WeatherMast m = Masts.of(0, 2);
         Check.refuses("reading: no instrument", INDEX, () -> m.reading(2, -1));
         Check.refuses("reading: nothing read", NONE, () -> m.reading(0, 0));
         for (int n = 1; n <= 40; n++) {
@@ -255,16 +240,9 @@ public final class PromisesTest {
         Check.is("what came out is kept", Bits.f(2), m.reading(1, 0));
     }
 
-    private static void tells(String what, WeatherMast m, long least, long greatest, long swing, long sum) {
-        Check.is(what + ": LEAST", least, m.tell(0, 0));
-        Check.is(what + ": GREATEST", greatest, m.tell(0, 1));
-        Check.is(what + ": SWING", swing, m.tell(0, 2));
-        Check.is(what + ": SUM", sum, m.tell(0, 3));
-    }
-
     // Promise 7
     private static void tell() {
-        WeatherMast m = mast(0);
+        WeatherMast m = Masts.of(0);
         Check.refuses("tell: no instrument", INDEX, () -> m.tell(1, 9));
         Check.refuses("tell -1", ARGUMENT, () -> m.tell(0, -1));
         Check.refuses("tell 4", ARGUMENT, () -> m.tell(0, 4));
@@ -273,80 +251,80 @@ public final class PromisesTest {
             Check.refuses("tell: nothing read", NONE, () -> m.tell(0, w));
         }
         m.read(0, -5);
-        tells("one count", m, -5, -5, 0, 5);
+        Masts.tells("one count", m, -5, -5, 0, 5);
         m.read(0, 7);
-        tells("two counts", m, -5, 7, 12, 12);
+        Masts.tells("two counts", m, -5, 7, 12, 12);
         m.read(0, 1);
-        tells("three counts", m, -5, 7, 6, 13);
+        Masts.tells("three counts", m, -5, 7, 6, 13);
         m.read(0, INT_MIN);
-        tells("the least count", m, INT_MIN, 7, INT_MAX, INT_MIN + 13);
+        Masts.tells("the least count", m, INT_MIN, 7, INT_MAX, INT_MIN + 13);
         m.read(0, 0);
-        tells("a swing that wraps", m, INT_MIN, 7, INT_MIN, INT_MIN + 13);
+        Masts.tells("a swing that wraps", m, INT_MIN, 7, INT_MIN, INT_MIN + 13);
         m.read(0, INT_MIN);
-        tells("a sum that wraps", m, INT_MIN, 7, INT_MIN, 13);
+        Masts.tells("a sum that wraps", m, INT_MIN, 7, INT_MIN, 13);
         m.read(0, INT_MAX);
-        tells("a difference that wraps", m, INT_MIN, INT_MAX, 1, INT_MIN + 12);
+        Masts.tells("a difference that wraps", m, INT_MIN, INT_MAX, 1, INT_MIN + 12);
 
-        WeatherMast t = mast(1);
+        WeatherMast t = Masts.of(1);
         t.read(0, Long.MAX_VALUE);
         t.read(0, Long.MIN_VALUE);
-        tells("tallies wrap", t, Long.MIN_VALUE, Long.MAX_VALUE, 1, -1);
+        Masts.tells("tallies wrap", t, Long.MIN_VALUE, Long.MAX_VALUE, 1, -1);
         t.read(0, 1L << 40);
-        tells("tallies are wide", t, Long.MIN_VALUE, Long.MAX_VALUE, Long.MAX_VALUE - (1L << 40) + 1, (1L << 40) - 1);
+        Masts.tells("tallies are wide", t, Long.MIN_VALUE, Long.MAX_VALUE, Long.MAX_VALUE - (1L << 40) + 1, (1L << 40) - 1);
         for (int i = 0; i < 20; i++) {
             t.read(0, 1);
         }
-        tells("of all readings, not of those kept", t, Long.MIN_VALUE, Long.MAX_VALUE, 0, (1L << 40) + 19);
+        Masts.tells("of all readings, not of those kept", t, Long.MIN_VALUE, Long.MAX_VALUE, 0, (1L << 40) + 19);
     }
 
     private static void tellOfFloats() {
-        WeatherMast z = mast(3);
+        WeatherMast z = Masts.of(3);
         z.read(0, Bits.d(0));
         z.read(0, Bits.d(-0.0));
-        tells("zeros", z, Bits.d(-0.0), Bits.d(0), 0, 0);
+        Masts.tells("zeros", z, Bits.d(-0.0), Bits.d(0), 0, 0);
         z.read(0, Bits.d(0));
-        tells("zeros", z, Bits.d(-0.0), Bits.d(0), 0, 0);
+        Masts.tells("zeros", z, Bits.d(-0.0), Bits.d(0), 0, 0);
 
-        WeatherMast n = mast(2);
+        WeatherMast n = Masts.of(2);
         n.read(0, Bits.f(-0.0));
-        tells("-0 alone", n, Bits.f(-0.0), Bits.f(-0.0), 0, 0);
+        Masts.tells("-0 alone", n, Bits.f(-0.0), Bits.f(-0.0), 0, 0);
 
-        WeatherMast i = mast(3);
+        WeatherMast i = Masts.of(3);
         i.read(0, Bits.d(INF));
         i.read(0, Bits.d(INF));
-        tells("infinities alike", i, Bits.d(INF), Bits.d(INF), 0, Bits.d(INF));
+        Masts.tells("infinities alike", i, Bits.d(INF), Bits.d(INF), 0, Bits.d(INF));
         i.read(0, Bits.d(-INF));
-        tells("infinities apart", i, Bits.d(-INF), Bits.d(INF), Bits.d(INF), Bits.d(INF));
+        Masts.tells("infinities apart", i, Bits.d(-INF), Bits.d(INF), Bits.d(INF), Bits.d(INF));
         i.read(0, Bits.d(-INF));
-        tells("infinities alike", i, Bits.d(-INF), Bits.d(INF), 0, Bits.d(INF));
+        Masts.tells("infinities alike", i, Bits.d(-INF), Bits.d(INF), 0, Bits.d(INF));
         i.read(0, Bits.d(1));
-        tells("from infinity", i, Bits.d(-INF), Bits.d(INF), Bits.d(INF), Bits.d(INF));
+        Masts.tells("from infinity", i, Bits.d(-INF), Bits.d(INF), Bits.d(INF), Bits.d(INF));
 
-        WeatherMast s = mast(2);
+        WeatherMast s = Masts.of(2);
         s.read(0, Bits.f(16777216));
         s.read(0, Bits.f(-1));
-        tells("a half to the even one", s, Bits.f(-1), Bits.f(16777216), Bits.f(16777216), Bits.f(16777216));
+        Masts.tells("a half to the even one", s, Bits.f(-1), Bits.f(16777216), Bits.f(16777216), Bits.f(16777216));
         s.read(0, Bits.f(3));
-        tells("rounded one by one", s, Bits.f(-1), Bits.f(16777216), Bits.f(4), Bits.f(16777220));
+        Masts.tells("rounded one by one", s, Bits.f(-1), Bits.f(16777216), Bits.f(4), Bits.f(16777220));
 
-        WeatherMast d = mast(3);
+        WeatherMast d = Masts.of(3);
         d.read(0, Bits.d(0.1));
         d.read(0, Bits.d(0.2));
-        tells("rounded", d, Bits.d(0.1), Bits.d(0.2), Bits.d(0.2 - 0.1), Bits.d(0.1 + 0.2));
+        Masts.tells("rounded", d, Bits.d(0.1), Bits.d(0.2), Bits.d(0.2 - 0.1), Bits.d(0.1 + 0.2));
         d.read(0, Bits.d(-Double.MAX_VALUE));
         d.read(0, Bits.d(Double.MAX_VALUE));
-        tells("beyond is infinite", d, Bits.d(-Double.MAX_VALUE), Bits.d(Double.MAX_VALUE), Bits.d(INF), Bits.d(INF));
+        Masts.tells("beyond is infinite", d, Bits.d(-Double.MAX_VALUE), Bits.d(Double.MAX_VALUE), Bits.d(INF), Bits.d(INF));
     }
 
     // Promise 8
     private static void wholeIs(int sort, long bits, int due) {
-        WeatherMast m = mast(sort);
+        WeatherMast m = Masts.of(sort);
         m.read(0, bits);
         Check.is("whole of sort " + sort + ", bits " + bits, due, m.whole(0));
     }
 
     private static void whole() {
-        WeatherMast m = mast(3);
+        WeatherMast m = Masts.of(3);
         Check.refuses("whole: no instrument", INDEX, () -> m.whole(1));
         Check.refuses("whole: nothing read", NONE, () -> m.whole(0));
         wholeIs(0, -7, -7);
@@ -369,7 +347,7 @@ public final class PromisesTest {
 
     // Promise 9
     private static void limits() {
-        WeatherMast m = mast(0, 1, 2, 3);
+        WeatherMast m = Masts.of(0, 1, 2, 3);
         Check.refuses("limits: no instrument", INDEX, () -> m.limits(4, NAN_D, NAN_D));
         Check.refuses("low no number", ARGUMENT, () -> m.limits(3, NAN_D, 0));
         Check.refuses("high no number", ARGUMENT, () -> m.limits(3, 0, NAN_D));
@@ -389,7 +367,7 @@ public final class PromisesTest {
 
     // Promise 10
     private static void widest() {
-        WeatherMast m = mast(0, 0, 3, 3, 1);
+        WeatherMast m = Masts.of(0, 0, 3, 3, 1);
         Check.refuses("widest -1", ARGUMENT, () -> m.widest(-1));
         Check.refuses("widest 4", ARGUMENT, () -> m.widest(4));
         Check.refuses("nothing read", NONE, () -> m.widest(0));
@@ -418,7 +396,7 @@ public final class PromisesTest {
 
     // Promise 11
     private static void forget() {
-        WeatherMast m = mast(0, 0);
+        WeatherMast m = Masts.of(0, 0);
         Check.refuses("forget: no instrument", INDEX, () -> m.forget(2));
         Check.is("nothing was read", 0, m.forget(0));
         m.step(0, 1, -50);
@@ -439,7 +417,7 @@ public final class PromisesTest {
         Check.is("readings ever stay", 21, m.count(1));
         Check.is("the chain and limits stay", -50, m.read(0, -200));
         Check.is("the chain and limits stay", 21, m.alarms(0));
-        tells("begun anew", m, -50, -50, 0, 50);
+        Masts.tells("begun anew", m, -50, -50, 0, 50);
         Check.refuses("only the new ones are kept", NONE, () -> m.reading(0, 1));
         Check.is("since it forgot last", 1, m.forget(0));
         Check.is("others stay", 3, m.reading(1, 0));
@@ -447,7 +425,7 @@ public final class PromisesTest {
 
     // Promise 12
     private static void alarms() {
-        WeatherMast m = mast(0, 3, 2, 1);
+        WeatherMast m = Masts.of(0, 3, 2, 1);
         Check.refuses("alarms: no instrument", INDEX, () -> m.alarms(4));
         Check.refuses("alarms: below 0", INDEX, () -> m.alarms(-1));
         long[][] edges = {{INT_MIN, INT_MAX}, {Bits.d(-INF), Bits.d(INF)}, {Bits.f(-INF), Bits.f(INF)},
@@ -486,7 +464,7 @@ public final class PromisesTest {
 
     // Promise 13
     private static void count() {
-        WeatherMast m = mast(0, 3);
+        WeatherMast m = Masts.of(0, 3);
         for (int what : new int[] {-1, 4, Integer.MIN_VALUE, Integer.MAX_VALUE}) {
             Check.is("count of nothing such", -1, m.count(what));
         }
@@ -528,7 +506,7 @@ public final class PromisesTest {
 
     // "A call that throws changes nothing."
     private static void refusedCallsChangeNothing() {
-        WeatherMast m = mast(3, 0);
+        WeatherMast m = Masts.of(3, 0);
         m.step(0, 2, Bits.d(100));
         m.limits(0, Bits.d(1), Bits.d(5));
         m.read(0, Bits.d(3));
