@@ -118,6 +118,18 @@ public final class BoundariesTest {
         full.read(0, 1);
         Check.is("beside a full one", 0, new WeatherMast().count(0));
         Check.is("beside a full one", 0, new WeatherMast().mount(3));
+        WeatherMast a = Masts.of(0);
+        WeatherMast b = Masts.of(0);
+        a.step(0, 0, 0);
+        a.limits(0, 0, 3);
+        a.read(0, -4);
+        b.read(0, -6);
+        Check.is("side by side", 4, a.reading(0, 0));
+        Check.is("side by side", -6, b.reading(0, 0));
+        Check.is("side by side", 1, a.count(2));
+        Check.is("side by side", 0, b.count(2));
+        Check.is("side by side", 1, b.count(1));
+        Check.is("side by side", 0, b.count(3));
     }
 
     // Promise 2
@@ -513,6 +525,15 @@ public final class BoundariesTest {
             for (int i = 0; i < from.length; i++) {
                 wholeIs(sort, due[i], from[i]);
             }
+        }
+        for (int power = 1; power <= 1074; power++) {
+            wholeIs(2, 0, Math.scalb(1.5, -power));
+            wholeIs(3, 0, Math.scalb(-1.5, -power));
+        }
+        for (int power = 0; power < 31; power++) {
+            wholeIs(2, 1 << power, Math.scalb(1.0, power));
+            wholeIs(3, (1 << power) - 1, Math.scalb(1.0, power) - 0.25);
+            wholeIs(3, -(1 << power), -Math.scalb(1.0, power) - 0.25);
         }
         wholeIs(3, 0, Math.nextDown(1.0));
         wholeIs(3, 0, Math.nextUp(-1.0));

@@ -23,6 +23,11 @@ final class Check {
      * stand there is checked, so that a test of words that are no more there does not go unseen.
      */
     static void promised(String words) {
+        sentence = "\"" + words + "\" ";
+        yes("stands in the document", document().contains(words));
+    }
+
+    private static String document() {
         if (document == null) {
             try {
                 document = Files.readString(DOCUMENT);
@@ -30,8 +35,7 @@ final class Check {
                 throw new UncheckedIOException(e);
             }
         }
-        sentence = "\"" + words + "\" ";
-        yes("stands in the document", document.contains(words));
+        return document;
     }
 
     static void same(String what, Object due, Object got) {

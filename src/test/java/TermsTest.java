@@ -27,6 +27,7 @@ public final class TermsTest {
         talliesWrap();
         sumsAreRounded();
         swingsAreRounded();
+        farApartIsRounded();
         smallestAreExact();
         beyondTheGreatest();
         singlesAreNotDoubles();
@@ -227,6 +228,23 @@ public final class TermsTest {
         swingIs(3, 1, 1, Double.MIN_VALUE);
         swingIs(3, 1L << 53, 1L << 53, -1);
         swingIs(3, (1L << 53) + 4, (1L << 53) + 2, -1);
+    }
+
+    /** However far below the greater one the smaller one stands, it is not lost or taken for a nearer one. */
+    private static void farApartIsRounded() {
+        Check.promised(ROUNDED);
+        for (int apart = 0; apart <= 200; apart++) {
+            for (double one : new double[] {1, 1.5, 1 + 1.0 / (1 << 23)}) {
+                float f = (float) Math.scalb(1.0, apart - 90);
+                float g = (float) Math.scalb(one, -90);
+                sumIs(2, f + g, f, g);
+                swingIs(2, Math.abs(f - g), f, g);
+                double d = Math.scalb(1.0, apart - 90);
+                double e = Math.scalb(one, -90);
+                sumIs(3, d + e, d, e);
+                swingIs(3, Math.abs(d - e), d, e);
+            }
+        }
     }
 
     private static void smallestAreExact() {
