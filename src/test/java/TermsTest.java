@@ -182,6 +182,8 @@ public final class TermsTest {
         sumIs(2, s, s, 1);
         sumIs(2, s, s, Math.nextDown(1f));
         sumIs(2, s + 2, s, Math.nextUp(1f));
+        sumIs(2, s + 2, s, 1.25);
+        sumIs(2, s + 2, s, Math.nextUp(1.25f));
         sumIs(2, s + 4, s + 2, 1);
         sumIs(2, s + 2, s + 2, Math.nextDown(1f));
         sumIs(2, s + 4, s + 4, 1);
@@ -192,6 +194,8 @@ public final class TermsTest {
         sumIs(3, d, d, 1);
         sumIs(3, d, d, Math.nextDown(1.0));
         sumIs(3, d + 2, d, Math.nextUp(1.0));
+        sumIs(3, d + 2, d, 1.25);
+        sumIs(3, d + 2, d, Math.nextUp(1.25));
         sumIs(3, d + 4, d + 2, 1);
         sumIs(3, d + 2, d + 2, Math.nextDown(1.0));
         sumIs(3, d + 4, d + 4, 1);
