@@ -29,6 +29,7 @@ public final class BoundariesTest {
         stepSeventh();
         stepOrder();
         stepCounts();
+        followCounts();
         followNoInstrument();
         followNoStep();
         followWithoutK();
@@ -274,7 +275,7 @@ public final class BoundariesTest {
     }
 
     private static void stepCounts() {
-        Check.promised("One more step behind an instrument's chain");
+        Check.promised("One more step behind an instrument's chain, with K (which does not matter for steps without): how many steps it has.");
         WeatherMast m = Masts.of(0, 0);
         for (int n = 1; n <= 6; n++) {
             Check.is("how many", n, m.step(0, 1, n));
@@ -284,6 +285,22 @@ public final class BoundariesTest {
     }
 
     // Promise 4
+
+    private static void followCounts() {
+        Check.promised("One more step whose K is the latest reading of an instrument other: how many steps it has.");
+        for (int sort = 0; sort < 4; sort++) {
+            WeatherMast m = Masts.of(sort, sort, sort);
+            for (int n = 1; n <= 6; n++) {
+                boolean follows = n % 2 == 1;
+                Check.is("how many, some of step's", n, follows ? m.follow(0, 1, 1) : m.step(0, 1, 0));
+                Check.is("the other's chain grows by its own", n, m.follow(1, 1, 2));
+            }
+            m.read(2, Bits.of(sort, 7));
+            Check.is("the other reads", Bits.of(sort, 7), m.read(1, Bits.of(sort, 3)));
+            Check.is("its latest reading is K", Bits.of(sort, 7), m.read(0, Bits.of(sort, 5)));
+            Check.is("steps of both, not of the third", 12, m.count(3));
+        }
+    }
 
     private static void followNoInstrument() {
         Check.promised("IndexOutOfBoundsException when there is no such instrument, or no such other");

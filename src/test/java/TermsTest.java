@@ -13,7 +13,7 @@ public final class TermsTest {
 
     // The first and the last bits of each sign that are no number, and some between.
     private static final long[] NO_SINGLES = {0x7f800001L, 0x7fbfffffL, 0x7fc00000L, 0x7fffffffL, 0xff800001L, 0xffc00000L,
-        0xffffffffL, -1L, 0x123456787fc00000L, (int) 0xff800001};
+        0xffffffffL, -1L, 0x123456787fc00000L, 0xff800001};
     private static final long[] NO_DOUBLES = {INF_D + 1, 0x7ff00000ffffffffL, 0x7ff7ffffffffffffL, 0x7ff8000000000000L,
         Long.MAX_VALUE, 0xfff0000000000001L, 0xfff8000000000000L, -1L};
 
@@ -40,6 +40,7 @@ public final class TermsTest {
         infinitiesAreNumbers();
         zerosWhereTheGreaterIsTold();
         zerosWhereSomethingIsAbove();
+        numberedAsMounted();
         firstLimits();
         kTold();
         kOfAnother();
@@ -456,6 +457,22 @@ public final class TermsTest {
                     Check.is("below", 2, m.alarms(0));
                 }
             }
+        }
+    }
+
+    private static void numberedAsMounted() {
+        Check.promised("Instruments are numbered from 0 on as they are mounted.");
+        WeatherMast m = new WeatherMast();
+        for (int n = 0; n < 8; n++) {
+            Check.is("its number", n, m.mount(3 - n % 4));
+            m.read(n, n);
+            m.forget(n);
+        }
+        for (int n = 0; n < 8; n++) {
+            Check.is("it is found by its number", n, m.read(n, n));
+        }
+        for (int n = 0; n < 8; n++) {
+            Check.is("it has its own reading", n, m.reading(n, 0));
         }
     }
 
